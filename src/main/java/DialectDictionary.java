@@ -563,14 +563,14 @@ public final class DialectDictionary {
         Lexicon lexicon = desk.lexicon();
         int headword = commands.headwordOf(number);
         int other = commands.otherOf(number);
-        switch (commands.signOf(number)) {
-            case Commands.MAKE:
+        switch (commands.kindOf(number)) {
+            case MAKING:
                 input.divide(commands.startOf(number), commands.endOf(number), desk.alphabet());
                 return lexicon.isMakingRefused(input, report);
-            case Commands.ADD:
+            case ADDING:
                 input.divide(commands.startOf(number), commands.endOf(number), desk.alphabet());
                 return lexicon.isAddingRefused(headword, input, report);
-            case Commands.REFER:
+            case REFERRING:
                 return lexicon.isReferringRefused(headword, other, report);
             default:
                 return lexicon.isJoiningRefused(headword, other, report);
@@ -679,7 +679,7 @@ public final class DialectDictionary {
             if (index < 0 || index >= MOST_LETTERS) {
                 return NONE;
             }
-            return (int) (form >>> BITS * index & MASK) - 1;
+            return (int) ((form >>> (BITS * index)) & MASK) - 1;
         }
 
         static int length(long form) {
@@ -692,7 +692,7 @@ public final class DialectDictionary {
 
         static long append(long form, int letter) {
             int length = length(form);
-            return length == MOST_LETTERS ? form : form | (long) (letter + 1) << BITS * length;
+            return length == MOST_LETTERS ? form : form | ((long) (letter + 1) << (BITS * length));
         }
     }
 
@@ -792,16 +792,8 @@ public final class DialectDictionary {
         }
 
         boolean isVowel(int letter) {
-            switch (letter >= 0 && letter < size ? firsts[letter] : BLANK) {
-                case 'a':
-                case 'e':
-                case 'i':
-                case 'o':
-                case 'u':
-                    return true;
-                default:
-                    return false;
-            }
+            char first = firstOf(letter);
+            return first == 'a' || first == 'e' || first == 'i' || first == 'o' || first == 'u';
         }
 
         /** -1 if the first form comes first, 1 if the second one does, 0 if they are the same. */
@@ -1487,16 +1479,10 @@ public final class DialectDictionary {
 
     /** A text of commands, read from the input buffer; its forms stay there and are divided when their turn comes. */
     private static final class Commands {
-        static final char MAKE = '+';
-        static final char ADD = '~';
-        static final char REFER = '>';
-        static final char JOIN = '&';
-
-        private static final char SEPARATOR = ';';
         /** No command is shorter than two characters. */
         private static final int MOST = MOST_SIGNS / 2;
 
-        private final char[] signs;
+        private final int[] kinds;
         private final int[] headwords;
         private final int[] others;
         private final int[] starts;
@@ -1505,7 +1491,7 @@ public final class DialectDictionary {
         private int cursor;
 
         Commands() {
-            signs = new char[MOST];
+            kinds = new int[MOST];
             headwords = new int[MOST];
             others = new int[MOST];
             starts = new int[MOST];
@@ -1524,7 +1510,7 @@ public final class DialectDictionary {
                     return false;
                 }
                 count++;
-                hasMore = take(SEPARATOR, text);
+                hasMore = take(';', text);
             }
             return cursor == text.count();
         }
@@ -1536,19 +1522,20 @@ public final class DialectDictionary {
         private boolean parseCommand(Input text) {
             headwords[count] = NONE;
             others[count] = NONE;
-            if (take(MAKE, text)) {
-                signs[count] = MAKE;
+            if (take('+', text)) {
+                kinds[count] = MAKING;
                 return parseForm(text);
             }
             headwords[count] = parseNumber(text);
             if (headwords[count] == NONE) {
                 return false;
             }
-            signs[count] = text.signAt(cursor);
-            if (take(ADD, text)) {
+            if (take('~', text)) {
+                kinds[count] = ADDING;
                 return parseForm(text);
             }
-            if (take(REFER, text) || take(JOIN, text)) {
+            kinds[count] = text.signAt(cursor) == '>' ? REFERRING : JOINING;
+            if (take('>', text) || take('&', text)) {
                 others[count] = parseNumber(text);
                 return others[count] != NONE;
             }
@@ -1598,8 +1585,8 @@ public final class DialectDictionary {
             return number >= 0 && number < count;
         }
 
-        char signOf(int number) {
-            return hasCommand(number) ? signs[number] : SEPARATOR;
+        int kindOf(int number) {
+            return hasCommand(number) ? kinds[number] : NONE;
         }
 
         int headwordOf(int number) {
@@ -1619,11 +1606,11 @@ public final class DialectDictionary {
         }
 
         boolean hasHeadwords(int number, Lexicon lexicon) {
-            char sign = signOf(number);
-            if (sign != MAKE && !lexicon.hasHeadword(headwordOf(number))) {
+            int kind = kindOf(number);
+            if (kind != MAKING && !lexicon.hasHeadword(headwordOf(number))) {
                 return false;
             }
-            return sign == MAKE || sign == ADD || lexicon.hasHeadword(otherOf(number));
+            return kind == MAKING || kind == ADDING || lexicon.hasHeadword(otherOf(number));
         }
     }
 }
