@@ -160,6 +160,7 @@ public final class DialectDictionary {
         requireHeadword(headword);
         requireHeadword(other);
         history.prepare(desk);
+        // Counted ahead of it, for by joining the headword's own number may decrease.
         int variants = entry(headword).variants() + entry(other).formCount();
         if (desk.lexicon().isJoiningRefused(headword, other, report)) {
             throw new UnsupportedOperationException("joining the headwords is refused");
