@@ -32,9 +32,12 @@ public final class ModelTest {
         }
     }
 
+    /** An object has 512 calls; what it answers later is free. */
     private void same(String call, Checks.Call of, Checks.Call due) {
-        left--;
-        Checks.due(Checks.outcome(due), Checks.outcome(of), call);
+        if (left > 0) {
+            left--;
+            Checks.due(Checks.outcome(due), Checks.outcome(of), call);
+        }
     }
 
     private void text(String text) {
