@@ -379,6 +379,11 @@ public final class HeadwordsEdgesTest {
         Checks.due(1, Desks.chain(3).remove(0), "its own one");
         Checks.due(1, Desks.chain(3).remove(2), "the one to it");
         Checks.due(2, Desks.chain(3).remove(1), "both");
+        DialectDictionary again = Desks.chain(3);
+        Checks.addVariant(again, 0, "x");
+        again.remove(0);
+        Checks.due(2, Checks.add(again, "a"), "the headword made again");
+        Checks.due("0 -1", again.headword(2, 0) + " " + again.headword(2, 1), "has neither variants nor a reference");
         DialectDictionary only = Checks.with("a");
         Checks.due(0, only.remove(0), "the only headword");
         Checks.due(0, only.account(0), "none is left");

@@ -82,6 +82,7 @@ public final class HistoryEdgesTest {
         refusedCallsAreNoChanges();
         eightLatestChanges();
         eightOfEachKind();
+        eightOfManyChanges();
         refusalsAmongEightChanges();
         changesThatAreLeft();
         changesBehindUndo();
@@ -95,6 +96,7 @@ public final class HistoryEdgesTest {
         staysSaved();
         bufferAndReportStayOverRestore();
         nothingSavedCostsNoChange();
+        lastCallOfAnObject();
         Checks.end("HistoryEdgesTest");
     }
 
@@ -104,8 +106,8 @@ public final class HistoryEdgesTest {
         Checks.perform(desk, "+a;+b;+c");
         Checks.addVariant(desk, 0, "aa");
         desk.refer(1, 2);
-        desk.addRule(0, 1, 0, 0);
-        desk.addRule(1, 2, 0, 0);
+        desk.addRule(0, 1, 0, 3);
+        desk.addRule(1, 2, 2, 0);
         desk.addLetter('z', 'z', 26);
         return desk;
     }
@@ -204,6 +206,22 @@ public final class HistoryEdgesTest {
             Checks.refused(STATE, desk::undo, "a ninth undo behind " + change.name());
             Checks.due(3, desk.account(0), "the first change, three headwords, stays behind " + change.name());
             Checks.due(3, desk.account(1), "and it alone");
+        }
+    }
+
+    private static void eightOfManyChanges() {
+        Checks.sentence("32: The 8 latest changes are kept; older ones are gone for good, however many there were");
+        for (int changes : new int[] {15, 16, 17, 18, 26, 27, 28, 80, 81, 82, 200}) {
+            DialectDictionary desk = new DialectDictionary();
+            for (int change = 0; change < changes; change++) {
+                desk.moveLetter(25, 0);
+            }
+            for (int left = 7; left >= 0; left--) {
+                Checks.due(left, desk.undo(), "undo of " + changes + " changes");
+                int moved = (changes - 8 + left) % 26;
+                Checks.due((char) ('a' + (26 - moved) % 26), desk.letter(0, false), "the first letter behind it");
+            }
+            Checks.refused(STATE, desk::undo, "a ninth undo of " + changes + " changes");
         }
     }
 
@@ -342,6 +360,25 @@ public final class HistoryEdgesTest {
         }
         other.restore();
         Checks.due(Checks.stateOf(six()), Checks.stateOf(other), "what stands in place of a new object");
+        otherLettersCame();
+    }
+
+    private static void otherLettersCame() {
+        DialectDictionary desk = Desks.letters(2);
+        Checks.add(desk, "qaqb");
+        desk.save();
+        desk.undo();
+        desk.undo();
+        desk.undo();
+        desk.addLetter('c', 'h', 0);
+        desk.addLetter('s', 'h', 0);
+        desk.addLetter('t', 'h', 0);
+        Checks.due(1, desk.restore(), "restore behind other letters");
+        Checks.due("z qa qb", Checks.alphabetOf(desk).substring(50), "the letters that were saved");
+        Checks.due(28, desk.account(4), "and no others");
+        Checks.due("(qa)(qb)", Checks.formOf(desk, 0, -1), "the form");
+        Checks.due(1, Checks.add(desk, "chsh"), "the other letters are none any more");
+        Checks.due("chsh", Checks.formOf(desk, 1, -1), "but two characters each");
     }
 
     private static void noChangeAfterRestore() {
@@ -405,6 +442,17 @@ public final class HistoryEdgesTest {
         Checks.refused(STATE, desk::restore, "nothing was saved");
         for (int left = 7; left >= 0; left--) {
             Checks.due(left, desk.undo(), "the changes can be taken back");
+        }
+    }
+
+    private static void lastCallOfAnObject() {
+        Checks.sentence("Face: An object is used for at most 512 calls after it has been made");
+        DialectDictionary desk = new DialectDictionary();
+        for (int time = 0; time < 128; time++) {
+            Checks.due(1, desk.feed('x'), "call " + (4 * time + 1));
+            Checks.due(0, desk.add(), "call " + (4 * time + 2));
+            Checks.due(0, desk.remove(0), "call " + (4 * time + 3));
+            Checks.due(0, desk.account(0), "call " + (4 * time + 4));
         }
     }
 }

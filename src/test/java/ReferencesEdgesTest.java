@@ -323,6 +323,9 @@ public final class ReferencesEdgesTest {
         Checks.due(1, star.join(0, 19), "the one to which 18 refer");
         Checks.due(18, star.headword(0, 3), "18 refer to the other one");
         Checks.due(18, star.account(2), "no reference is gone");
+        DialectDictionary chain = Desks.chain(4);
+        Checks.due(1, chain.join(3, 1), "one from which two references lead to the other one");
+        Checks.due("2 2 -1", references(chain), "the references of a, c and d");
         DialectDictionary one = Desks.headwords(3);
         one.refer(2, 0);
         Checks.due(1, one.join(1, 0), "join");
