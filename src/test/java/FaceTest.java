@@ -5,18 +5,13 @@ import java.lang.reflect.Method;
 import java.lang.reflect.Modifier;
 import java.nio.file.Files;
 import java.nio.file.Path;
+import java.util.ArrayList;
+import java.util.List;
 import java.util.Set;
 import java.util.TreeSet;
 
 /** The face of the document, and those rules of LANGUAGE.md that can be seen from outside or from single words. */
 public final class FaceTest {
-    private static final String FACE = "account(int) add() addLetter(char,char,int) addRule(int,int,int,int) "
-            + "addVariant(int) by(int,int,int) changedShare() compare(int,int,int,int) derived(int,int,int,int) "
-            + "exchange(int,int) feed(char) find() headword(int,int) join(int,int) letter(int,boolean) "
-            + "letterOf(int,int,int) meanLength() moveLetter(int,int) ordered(int) perform() promote(int,int) "
-            + "proves(int,int,int,int) refer(int,int) remove(int) removeRule(int) removeVariant(int,int) "
-            + "rename(int) report(int,boolean) restore() rule(int,int) save() steps(int,int) undo()";
-
     private static final String[] STRANGE = {"::", "catch", "finally", "assert", "synchronized", "instanceof",
             "double[", "System.out", "Exact(", "hashCode", "toString", "equals(", "List", "String"};
 
@@ -26,21 +21,18 @@ public final class FaceTest {
         Checks.end("FaceTest");
     }
 
-    private static void face() {
+    private static void face() throws IOException {
         Class<?> of = DialectDictionary.class;
-        Set<String> names = new TreeSet<>();
+        Set<String> declared = new TreeSet<>();
         Set<String> publicNames = new TreeSet<>();
         for (Method method : of.getDeclaredMethods()) {
             if (!method.isSynthetic() && Modifier.isPublic(method.getModifiers())) {
-                StringBuilder types = new StringBuilder();
-                for (Class<?> type : method.getParameterTypes()) {
-                    types.append(types.length() == 0 ? "" : ",").append(type.getSimpleName());
-                }
-                names.add(method.getName() + "(" + types + ")");
+                declared.add(told(method));
                 publicNames.add(method.getName());
             }
         }
-        Checks.due(FACE, String.join(" ", names), "the public methods");
+        Checks.due(faceOfDocument(), declared, "the public methods, with types and exceptions");
+        Checks.due(33, declared.size(), "the number of public methods");
         for (Method method : of.getDeclaredMethods()) {
             boolean isOwn = Modifier.isPrivate(method.getModifiers());
             Checks.due(true, method.isSynthetic() || isOwn || publicNames.contains(method.getName()),
@@ -53,8 +45,34 @@ public final class FaceTest {
         }
         Constructor<?>[] constructors = of.getDeclaredConstructors();
         Checks.due(1, constructors.length, "one constructor");
+        Checks.due("public DialectDictionary()", constructors[0].toString(), "that of the document");
         Checks.due(true, Modifier.isFinal(of.getModifiers()), "a final class");
         Checks.due(true, of.getDeclaredClasses().length <= 12, "some twelve classes");
+    }
+
+    /** The lines of methods under "The public face" of the document, without the names of the arguments. */
+    private static Set<String> faceOfDocument() throws IOException {
+        Set<String> lines = new TreeSet<>();
+        for (String line : Files.readAllLines(Path.of("../shared/DOC.md"))) {
+            if (line.startsWith("    public ") && !line.contains("public DialectDictionary(")) {
+                lines.add(line.strip().replaceAll("(char|int|boolean) \\w+(?=[,)])", "$1"));
+            }
+        }
+        return lines;
+    }
+
+    private static String told(Method method) {
+        List<String> types = new ArrayList<>();
+        for (Class<?> type : method.getParameterTypes()) {
+            types.add(type.getSimpleName());
+        }
+        List<String> exceptions = new ArrayList<>();
+        for (Class<?> exception : method.getExceptionTypes()) {
+            exceptions.add(exception.getSimpleName());
+        }
+        return Modifier.toString(method.getModifiers()) + " " + method.getReturnType().getSimpleName() + " "
+                + method.getName() + "(" + String.join(", ", types) + ")"
+                + (exceptions.isEmpty() ? "" : " throws " + String.join(", ", exceptions)) + ";";
     }
 
     private static void source() throws IOException {
